@@ -1,0 +1,128 @@
+import java.util.ArrayList;
+import java.util.Collections;
+import java.util.List;
+import java.util.Random;
+
+/** Searches that learn much, some more than the program keeps, all within 512 calls. */
+public final class HardRunsTest {
+    private static final Due DUE = new Due();
+
+    public static void main(String[] args) {
+        for (int holes = 3; holes <= 6; holes++) {
+            pigeons(holes);
+        }
+        for (int seed = 0; seed < 10; seed++) {
+            oddDegrees(seed);
+            triples(seed);
+        }
+        DUE.end();
+    }
+
+    private static ClauseSearch with(int variables, List<int[]> clauses) {
+        ClauseSearch x = new ClauseSearch();
+        x.variables(variables);
+        for (int[] clause : clauses) {
+            for (int l : clause) {
+                x.give(l);
+            }
+            x.clause();
+        }
+        return x;
+    }
+
+    private static void searchWasRight(String what, ClauseSearch x) {
+        DUE.is(what + ": lessons that did not follow", 0, () -> x.count(4));
+        DUE.is(what + ": ways that were not good", 0, () -> x.count(5));
+    }
+
+    /** One pigeon more than holes; pigeon p in hole h is variable p * holes + h + 1. */
+    private static void pigeons(int holes) {
+        List<int[]> clauses = new ArrayList<>();
+        for (int p = 0; p <= holes; p++) {
+            int[] somewhere = new int[holes];
+            for (int h = 0; h < holes; h++) {
+                somewhere[h] = p * holes + h + 1;
+            }
+            clauses.add(somewhere);
+        }
+        for (int h = 1; h <= holes; h++) {
+            for (int p = 0; p <= holes; p++) {
+                for (int q = 0; q < p; q++) {
+                    clauses.add(new int[] {-(p * holes + h), -(q * holes + h)});
+                }
+            }
+        }
+        String what = holes + " holes";
+        ClauseSearch x = with((holes + 1) * holes, clauses);
+        DUE.is(what, false, x::solve);
+        searchWasRight(what, x);
+        ClauseSearch y = with((holes + 1) * holes, clauses.subList(1, clauses.size()));
+        DUE.is(what + ", a pigeon may stay away", true, y::solve);
+        for (int p = 1; p <= holes; p++) {
+            int due = p * holes + holes - p + 1;
+            DUE.is(what + ", pigeon " + p, true, () -> y.value(due));
+        }
+        y.give(1);
+        DUE.is(what + ", it may not", false, y::solve);
+        searchWasRight(what, y);
+    }
+
+    /** A graph whose edges are variables: at one vertex an odd number is true, elsewhere an even one. */
+    private static void oddDegrees(int seed) {
+        int vertices = 30;
+        List<Integer> ends = new ArrayList<>();
+        for (int i = 0; i < 3 * vertices; i++) {
+            ends.add(i / 2 + 1);
+        }
+        Collections.shuffle(ends, new Random(seed));
+        List<int[]> clauses = new ArrayList<>();
+        for (int v = 0; v < vertices; v++) {
+            for (int signs = 0; signs < 8; signs++) {
+                if (Integer.bitCount(signs) % 2 == (v == 0 ? 0 : 1)) {
+                    clauses.add(signed(ends.subList(3 * v, 3 * v + 3), signs));
+                }
+            }
+        }
+        String what = "graph " + seed;
+        ClauseSearch x = with(3 * vertices / 2, clauses);
+        DUE.is(what, false, x::solve);
+        searchWasRight(what, x);
+    }
+
+    private static int[] signed(List<Integer> variables, int signs) {
+        int[] clause = new int[variables.size()];
+        for (int i = 0; i < clause.length; i++) {
+            clause[i] = (signs >> i & 1) == 1 ? -variables.get(i) : variables.get(i);
+        }
+        return clause;
+    }
+
+    /** Two ways to put 53 variables into groups of 4 and one of 5: at most 2 are true, at most 2 false. */
+    private static void triples(int seed) {
+        List<Integer> variables = new ArrayList<>();
+        for (int v = 1; v <= 53; v++) {
+            variables.add(v);
+        }
+        List<int[]> clauses = new ArrayList<>();
+        for (int sign = -1; sign <= 1; sign += 2) {
+            Collections.shuffle(variables, new Random(100 + seed));
+            for (int from = 0; from < 52; from += 4) {
+                noneOfThree(variables.subList(from, from == 48 ? 53 : from + 4), sign, clauses);
+            }
+        }
+        String what = "triples " + seed;
+        ClauseSearch x = with(53, clauses);
+        DUE.is(what, false, x::solve);
+        searchWasRight(what, x);
+    }
+
+    private static void noneOfThree(List<Integer> group, int sign, List<int[]> clauses) {
+        for (int a = 0; a < group.size(); a++) {
+            for (int b = 0; b < a; b++) {
+                for (int c = 0; c < b; c++) {
+                    clauses.add(new int[] {sign * group.get(a), sign * group.get(b), sign * group.get(c)});
+                }
+            }
+        }
+    }
+}
