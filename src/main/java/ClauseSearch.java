@@ -296,9 +296,8 @@ public final class ClauseSearch {
 
         /** Puts all that is forced on the trail; answers a row that has become false, or NONE. */
         int follow() {
-            int bad = NONE;
             for (int left = MOST_VARIABLES; left > 0 && trail.followed < trail.size; left--) {
-                bad = visit(trail.order[trail.followed] ^ 1);
+                int bad = visit(trail.order[trail.followed] ^ 1);
                 if (bad != NONE) {
                     return bad;
                 }
@@ -390,16 +389,15 @@ public final class ClauseSearch {
             open = 0;
             join(bad);
             for (int i = trail.size - 1; i >= 0 && open > 0; i--) {
-                int code = trail.order[i];
-                if (seen[code >> 1]) {
+                int variable = trail.order[i] >> 1;
+                if (seen[variable]) {
                     open--;
-                    if (open == 0) {
-                        codes[0] = code ^ 1;
-                        seen[code >> 1] = false;
+                    if (open > 0) {
+                        join(trail.reason[variable]);
                     } else {
-                        join(trail.reason[code >> 1]);
-                        seen[code >> 1] = false;
+                        codes[0] = trail.order[i] ^ 1;
                     }
+                    seen[variable] = false;
                 }
             }
             finish();

@@ -12,8 +12,8 @@ public final class HardRunsTest {
             pigeons(holes);
         }
         for (int seed = 0; seed < 10; seed++) {
-            oddDegrees(seed);
-            triples(seed);
+            noWay("graph " + seed, oddDegrees(seed));
+            noWay("triples " + seed, triples(seed));
         }
         DUE.end();
     }
@@ -28,6 +28,11 @@ public final class HardRunsTest {
             x.clause();
         }
         return x;
+    }
+
+    private static void noWay(String what, ClauseSearch x) {
+        DUE.is(what, false, x::solve);
+        searchWasRight(what, x);
     }
 
     private static void searchWasRight(String what, ClauseSearch x) {
@@ -53,9 +58,7 @@ public final class HardRunsTest {
             }
         }
         String what = holes + " holes";
-        ClauseSearch x = with((holes + 1) * holes, clauses);
-        DUE.is(what, false, x::solve);
-        searchWasRight(what, x);
+        noWay(what, with((holes + 1) * holes, clauses));
         ClauseSearch y = with((holes + 1) * holes, clauses.subList(1, clauses.size()));
         DUE.is(what + ", a pigeon may stay away", true, y::solve);
         for (int p = 1; p <= holes; p++) {
@@ -68,7 +71,7 @@ public final class HardRunsTest {
     }
 
     /** A graph whose edges are variables: at one vertex an odd number is true, elsewhere an even one. */
-    private static void oddDegrees(int seed) {
+    static ClauseSearch oddDegrees(int seed) {
         int vertices = 30;
         List<Integer> ends = new ArrayList<>();
         for (int i = 0; i < 3 * vertices; i++) {
@@ -83,10 +86,7 @@ public final class HardRunsTest {
                 }
             }
         }
-        String what = "graph " + seed;
-        ClauseSearch x = with(3 * vertices / 2, clauses);
-        DUE.is(what, false, x::solve);
-        searchWasRight(what, x);
+        return with(3 * vertices / 2, clauses);
     }
 
     private static int[] signed(List<Integer> variables, int signs) {
@@ -98,7 +98,7 @@ public final class HardRunsTest {
     }
 
     /** Two ways to put 53 variables into groups of 4 and one of 5: at most 2 are true, at most 2 false. */
-    private static void triples(int seed) {
+    private static ClauseSearch triples(int seed) {
         List<Integer> variables = new ArrayList<>();
         for (int v = 1; v <= 53; v++) {
             variables.add(v);
@@ -110,10 +110,7 @@ public final class HardRunsTest {
                 noneOfThree(variables.subList(from, from == 48 ? 53 : from + 4), sign, clauses);
             }
         }
-        String what = "triples " + seed;
-        ClauseSearch x = with(53, clauses);
-        DUE.is(what, false, x::solve);
-        searchWasRight(what, x);
+        return with(53, clauses);
     }
 
     private static void noneOfThree(List<Integer> group, int sign, List<int[]> clauses) {

@@ -8,6 +8,7 @@ public final class PromiseTest {
         give();
         clause();
         clauseOfAnyShape();
+        mostClauses();
         solve();
         solveWithAssumptions();
         solveKeepsClausesAndForgetsAssumptions();
@@ -151,6 +152,23 @@ public final class PromiseTest {
         y.clause();
         DUE.is("4: 20 literals, the last holds", "00000000000000000001", () -> y.solve() ? way(y) : "no");
         DUE.is("4: and none else can", false, () -> solveWith(y, -20));
+    }
+
+    /** No 512 calls come this far; the limit is kept all the same. */
+    private static void mostClauses() {
+        ClauseSearch x = withVariables(400);
+        for (int i = 0; i < 4000; i++) {
+            for (int k = 0; k < 20; k++) {
+                x.give((i * 7 + k * 19) % 400 + 1);
+            }
+            x.clause();
+        }
+        DUE.state("4: 4000 clauses, the row is empty", x::clause);
+        x.give(-1);
+        DUE.bounds("4: 4000 clauses", x::clause);
+        DUE.is("4: the row stays", 1, () -> x.count(2));
+        DUE.is("4: solve with 4000", true, x::solve);
+        DUE.is("4: counts", "400 4000 0 1 0 0", () -> counts(x));
     }
 
     private static void solve() {

@@ -1,0 +1,141 @@
+import java.lang.reflect.Array;
+import java.lang.reflect.Field;
+import java.lang.reflect.Method;
+import java.lang.reflect.Modifier;
+import java.util.ArrayList;
+import java.util.Collections;
+import java.util.IdentityHashMap;
+import java.util.List;
+import java.util.Set;
+
+/**
+ * What no call of the face can show while the search is right: that a wrong lesson and a way that is
+ * not good would be found; and that an object stays small.
+ */
+public final class InsideTest {
+    private static final Due DUE = new Due();
+
+    public static void main(String[] args) {
+        wrongLessonIsFound();
+        badWayIsFound();
+        objectIsSmall();
+        DUE.end();
+    }
+
+    private static Field field(Object of, String name) throws ReflectiveOperationException {
+        Field f = of.getClass().getDeclaredField(name);
+        f.setAccessible(true);
+        return f;
+    }
+
+    private static Object get(Object of, String name) {
+        try {
+            return field(of, name).get(of);
+        } catch (ReflectiveOperationException e) {
+            throw new RuntimeException(e);
+        }
+    }
+
+    private static Object call(Object of, String name, Object... with) {
+        try {
+            for (Method m : of.getClass().getDeclaredMethods()) {
+                if (m.getName().equals(name)) {
+                    m.setAccessible(true);
+                    return m.invoke(of, with);
+                }
+            }
+            throw new NoSuchMethodException(name);
+        } catch (ReflectiveOperationException e) {
+            throw new RuntimeException(e);
+        }
+    }
+
+    private static ClauseSearch with(int variables, int[]... clauses) {
+        ClauseSearch x = new ClauseSearch();
+        x.variables(variables);
+        for (int[] clause : clauses) {
+            for (int l : clause) {
+                x.give(l);
+            }
+            x.clause();
+        }
+        return x;
+    }
+
+    /** Lets the check look at a lesson that is said to come from the first rows, in this order. */
+    private static boolean follows(ClauseSearch x, int usedRows, int... literals) {
+        Object search = get(x, "search");
+        Object lesson = get(search, "lesson");
+        int[] codes = (int[]) get(lesson, "codes");
+        int[] used = (int[]) get(lesson, "used");
+        for (int i = 0; i < literals.length; i++) {
+            codes[i] = literals[i] > 0 ? 2 * literals[i] : 1 - 2 * literals[i];
+        }
+        for (int i = 0; i < usedRows; i++) {
+            used[i] = i;
+        }
+        try {
+            field(lesson, "size").setInt(lesson, literals.length);
+            field(lesson, "usedSize").setInt(lesson, usedRows);
+        } catch (ReflectiveOperationException e) {
+            throw new RuntimeException(e);
+        }
+        return (Boolean) call(get(search, "check"), "follows", lesson);
+    }
+
+    private static void wrongLessonIsFound() {
+        ClauseSearch x = with(3, new int[] {1, 2}, new int[] {1, -2}, new int[] {2, 3});
+        DUE.is("1 follows", true, () -> follows(x, 2, 1));
+        DUE.is("1 or 3 follows", true, () -> follows(x, 2, 1, 3));
+        DUE.is("3 does not", false, () -> follows(x, 2, 3));
+        DUE.is("the denial of 1 does not", false, () -> follows(x, 2, -1));
+        DUE.is("1 does not, from the first row alone", false, () -> follows(x, 1, 1));
+        DUE.is("1 does not, from no row", false, () -> follows(x, 0, 1));
+        DUE.is("and 1 still follows", true, () -> follows(x, 2, 1));
+    }
+
+    private static void badWayIsFound() {
+        ClauseSearch x = with(3, new int[] {1, 2}, new int[] {-1, 3});
+        boolean[] way = (boolean[]) get(x, "way");
+        DUE.is("a way with none of 1, 2", false, () -> call(x, "wayIsGood"));
+        way[2] = true;
+        DUE.is("a way with 2", true, () -> call(x, "wayIsGood"));
+        x.give(-2);
+        DUE.is("where 2 is assumed to be false", false, () -> call(x, "wayIsGood"));
+        x.solve();
+        DUE.is("the way found", true, () -> call(x, "wayIsGood"));
+    }
+
+    private static void objectIsSmall() {
+        DUE.is("a new object is small", true, () -> elements(new ClauseSearch()) < 20_000);
+        ClauseSearch x = HardRunsTest.oddDegrees(1);
+        x.solve();
+        DUE.is("it is not large behind a long search", true, () -> elements(x) < 200_000);
+    }
+
+    /** All fields and elements that can be reached from an object. */
+    private static long elements(Object from) {
+        Set<Object> known = Collections.newSetFromMap(new IdentityHashMap<>());
+        List<Object> open = new ArrayList<>(List.of(from));
+        long sum = 0;
+        while (!open.isEmpty()) {
+            Object o = open.remove(open.size() - 1);
+            if (!known.add(o)) {
+                continue;
+            }
+            if (o.getClass().isArray()) {
+                sum += Array.getLength(o);
+                continue;
+            }
+            for (Field f : o.getClass().getDeclaredFields()) {
+                if (!Modifier.isStatic(f.getModifiers())) {
+                    sum++;
+                    if (!f.getType().isPrimitive()) {
+                        open.add(get(o, f.getName()));
+                    }
+                }
+            }
+        }
+        return sum;
+    }
+}
