@@ -18,7 +18,7 @@ public final class HardRunsTest {
         DUE.end();
     }
 
-    private static ClauseSearch with(int variables, List<int[]> clauses) {
+    static ClauseSearch with(int variables, List<int[]> clauses) {
         ClauseSearch x = new ClauseSearch();
         x.variables(variables);
         for (int[] clause : clauses) {

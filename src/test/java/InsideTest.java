@@ -51,15 +51,7 @@ public final class InsideTest {
     }
 
     private static ClauseSearch with(int variables, int[]... clauses) {
-        ClauseSearch x = new ClauseSearch();
-        x.variables(variables);
-        for (int[] clause : clauses) {
-            for (int l : clause) {
-                x.give(l);
-            }
-            x.clause();
-        }
-        return x;
+        return HardRunsTest.with(variables, List.of(clauses));
     }
 
     /** Lets the check look at a lesson that is said to come from the first rows, in this order. */
@@ -92,6 +84,8 @@ public final class InsideTest {
         DUE.is("1 does not, from the first row alone", false, () -> follows(x, 1, 1));
         DUE.is("1 does not, from no row", false, () -> follows(x, 0, 1));
         DUE.is("and 1 still follows", true, () -> follows(x, 2, 1));
+        ClauseSearch y = with(3, new int[] {1, -3}, new int[] {1, 2, 3});
+        DUE.is("1 does not, where 2 or 3 is left open", false, () -> follows(y, 2, 1));
     }
 
     private static void badWayIsFound() {
@@ -108,9 +102,9 @@ public final class InsideTest {
 
     private static void objectIsSmall() {
         DUE.is("a new object is small", true, () -> elements(new ClauseSearch()) < 20_000);
-        ClauseSearch x = HardRunsTest.oddDegrees(1);
+        ClauseSearch x = HardRunsTest.oddDegrees(8);
         x.solve();
-        DUE.is("it is not large behind a long search", true, () -> elements(x) < 200_000);
+        DUE.is("nor large behind a search that learns thousands of lessons", true, () -> elements(x) < 50_000);
     }
 
     /** All fields and elements that can be reached from an object. */
