@@ -2,6 +2,7 @@
 final class Due {
     private int looked;
     private int wrong;
+    private String sentence = "";
 
     /** A call whose answer, or whose exception, is looked at. */
     interface Call {
@@ -17,12 +18,17 @@ final class Due {
         }
     }
 
+    /** The document's words that the next answers belong to. */
+    void sentence(String words) {
+        sentence = "\"" + words + "\" ";
+    }
+
     void is(String what, Object due, Call call) {
         String got = answerOf(call);
         looked++;
         if (!got.equals(String.valueOf(due))) {
             wrong++;
-            System.out.println(what + " answered " + got + ", due is " + due);
+            System.out.println(sentence + what + " answered " + got + ", due is " + due);
         }
     }
 

@@ -18,18 +18,6 @@ public final class HardRunsTest {
         DUE.end();
     }
 
-    static ClauseSearch with(int variables, List<int[]> clauses) {
-        ClauseSearch x = new ClauseSearch();
-        x.variables(variables);
-        for (int[] clause : clauses) {
-            for (int l : clause) {
-                x.give(l);
-            }
-            x.clause();
-        }
-        return x;
-    }
-
     private static void noWay(String what, ClauseSearch x) {
         DUE.is(what, false, x::solve);
         searchWasRight(what, x);
@@ -58,8 +46,8 @@ public final class HardRunsTest {
             }
         }
         String what = holes + " holes";
-        noWay(what, with((holes + 1) * holes, clauses));
-        ClauseSearch y = with((holes + 1) * holes, clauses.subList(1, clauses.size()));
+        noWay(what, Calls.withClauses((holes + 1) * holes, clauses));
+        ClauseSearch y = Calls.withClauses((holes + 1) * holes, clauses.subList(1, clauses.size()));
         DUE.is(what + ", a pigeon may stay away", true, y::solve);
         for (int p = 1; p <= holes; p++) {
             int due = p * holes + holes - p + 1;
@@ -86,7 +74,7 @@ public final class HardRunsTest {
                 }
             }
         }
-        return with(3 * vertices / 2, clauses);
+        return Calls.withClauses(3 * vertices / 2, clauses);
     }
 
     private static int[] signed(List<Integer> variables, int signs) {
@@ -110,7 +98,7 @@ public final class HardRunsTest {
                 noneOfThree(variables.subList(from, from == 48 ? 53 : from + 4), sign, clauses);
             }
         }
-        return with(53, clauses);
+        return Calls.withClauses(53, clauses);
     }
 
     private static void noneOfThree(List<Integer> group, int sign, List<int[]> clauses) {

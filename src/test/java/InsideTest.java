@@ -3,6 +3,7 @@ import java.lang.reflect.Field;
 import java.lang.reflect.Method;
 import java.lang.reflect.Modifier;
 import java.util.ArrayList;
+import java.util.Arrays;
 import java.util.Collections;
 import java.util.IdentityHashMap;
 import java.util.List;
@@ -17,7 +18,9 @@ public final class InsideTest {
 
     public static void main(String[] args) {
         wrongLessonIsFound();
+        wrongLessonIsCounted();
         badWayIsFound();
+        badWayIsCounted();
         objectIsSmall();
         DUE.end();
     }
@@ -51,7 +54,7 @@ public final class InsideTest {
     }
 
     private static ClauseSearch with(int variables, int[]... clauses) {
-        return HardRunsTest.with(variables, List.of(clauses));
+        return Calls.withClauses(variables, List.of(clauses));
     }
 
     /** Lets the check look at a lesson that is said to come from the first rows, in this order. */
@@ -76,6 +79,7 @@ public final class InsideTest {
     }
 
     private static void wrongLessonIsFound() {
+        DUE.sentence("4 lessons that did not follow");
         ClauseSearch x = with(3, new int[] {1, 2}, new int[] {1, -2}, new int[] {2, 3});
         DUE.is("1 follows", true, () -> follows(x, 2, 1));
         DUE.is("1 or 3 follows", true, () -> follows(x, 2, 1, 3));
@@ -88,7 +92,21 @@ public final class InsideTest {
         DUE.is("1 does not, where 2 or 3 is left open", false, () -> follows(y, 2, 1));
     }
 
+    /** Variable 1 is marked as seen before the search begins, so that the lesson lacks it. */
+    private static void wrongLessonIsCounted() {
+        DUE.sentence("4 lessons that did not follow");
+        ClauseSearch x = with(3, new int[] {1, 2, 3}, new int[] {1, 2, -3});
+        ((boolean[]) get(get(get(x, "search"), "lesson"), "seen"))[1] = true;
+        DUE.is("a wrong lesson is learnt", true, x::solve);
+        DUE.is("count(4)", 1, () -> x.count(4));
+        DUE.is("count(5)", 0, () -> x.count(5));
+        ClauseSearch y = with(3, new int[] {1, 2, 3}, new int[] {1, 2, -3});
+        DUE.is("a right lesson is learnt", true, y::solve);
+        DUE.is("count(4) behind it", 0, () -> y.count(4));
+    }
+
     private static void badWayIsFound() {
+        DUE.sentence("5 ways found that were not good");
         ClauseSearch x = with(3, new int[] {1, 2}, new int[] {-1, 3});
         boolean[] way = (boolean[]) get(x, "way");
         DUE.is("a way with none of 1, 2", false, () -> call(x, "wayIsGood"));
@@ -100,7 +118,23 @@ public final class InsideTest {
         DUE.is("the way found", true, () -> call(x, "wayIsGood"));
     }
 
+    /** What the search waits for is taken from it, so that it follows no clause. */
+    private static void badWayIsCounted() {
+        DUE.sentence("5 ways found that were not good");
+        ClauseSearch x = with(2, new int[] {1, 2});
+        int[] head = (int[]) get(get(get(x, "search"), "watch"), "head");
+        int[] kept = head.clone();
+        Arrays.fill(head, -1);
+        DUE.is("a bad way is no way", false, x::solve);
+        DUE.is("counts", "2 1 0 0 0 1", () -> Calls.counts(x));
+        DUE.state("its truths cannot be asked", () -> x.value(1));
+        System.arraycopy(kept, 0, head, 0, head.length);
+        DUE.is("a good way", "01", () -> Calls.leastWith(x));
+        DUE.is("counts behind it", "2 1 0 1 0 1", () -> Calls.counts(x));
+    }
+
     private static void objectIsSmall() {
+        DUE.sentence("What a run makes is counted");
         DUE.is("a new object is small", true, () -> elements(new ClauseSearch()) < 20_000);
         ClauseSearch x = HardRunsTest.oddDegrees(8);
         x.solve();

@@ -35,6 +35,9 @@ final class PlainModel {
         if (row.isEmpty()) {
             throw new IllegalStateException();
         }
+        if (clauses.size() == 4000) {
+            throw new IndexOutOfBoundsException();
+        }
         clauses.add(row.stream().mapToInt(Integer::intValue).toArray());
         row.clear();
         way = null;
