@@ -89,7 +89,7 @@ public final class AgainstPlainModelTest {
     private void manyClauses(int length) {
         int present = 5 + random.nextInt(14);
         variables(present);
-        while (calls < 400) {
+        while (calls < 360) {
             for (int i = random.nextInt(12); i >= 0; i--) {
                 newClause(present, Math.max(1, length + random.nextInt(3) - 1));
             }

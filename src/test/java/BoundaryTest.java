@@ -133,19 +133,24 @@ public final class BoundaryTest {
 
     private static void rowThatHas20() {
         DUE.sentence("that has 20: IndexOutOfBoundsException.");
-        ClauseSearch x = Calls.withVariables(21);
-        Calls.give(x, Calls.range(1, 19));
-        DUE.is("the 20th", 20, () -> x.give(20));
-        DUE.bounds("the 21st", () -> x.give(21));
-        DUE.bounds("nor one that is there already", () -> x.give(1));
-        DUE.bounds("nor a denial", () -> x.give(-21));
+        ClauseSearch x = Calls.withVariables(22);
+        Calls.give(x, Calls.range(2, 20));
+        DUE.is("the 20th", 20, () -> x.give(21));
+        DUE.bounds("the 21st", () -> x.give(22));
+        DUE.bounds("the lowest", () -> x.give(1));
+        DUE.bounds("one that is there already", () -> x.give(2));
+        DUE.bounds("a denial", () -> x.give(-21));
         DUE.is("20 stay", 20, () -> x.count(2));
+        DUE.is("none of them is lost, none came", "0" + "1".repeat(20) + "0", () -> Calls.leastWith(x));
+        DUE.is("room again behind a solve", 1, () -> x.give(2));
+        Calls.give(x, Calls.range(3, 21));
+        DUE.bounds("20 again", () -> x.give(1));
         x.clause();
-        DUE.is("room again behind a clause", 1, () -> x.give(-21));
-        Calls.give(x, Calls.range(-2, -20));
-        DUE.bounds("20 again", () -> x.give(-1));
-        DUE.is("none of them is lost, none came", Calls.onlyTrue(21, 1), () -> Calls.leastWith(x));
-        DUE.is("room again behind a solve", 1, () -> x.give(21));
+        DUE.is("room again behind a clause", 1, () -> x.give(-2));
+        Calls.give(x, Calls.range(-3, -20));
+        DUE.is("one of the clause is left", Calls.onlyTrue(22, 21), () -> Calls.leastWith(x));
+        Calls.give(x, Calls.range(-2, -21));
+        DUE.is("none of the clause is left", "no", () -> Calls.leastWith(x));
     }
 
     private static void howManyLiterals() {
@@ -238,6 +243,7 @@ public final class BoundaryTest {
         DUE.is("whatever is assumed", "no", () -> Calls.leastWith(x, 1));
         x.variables(1);
         DUE.is("nor with a new variable", "no", () -> Calls.leastWith(x, 2));
+        DUE.is("no way was found there", "2 2 0 0 0 0", () -> Calls.counts(x));
     }
 
     private static void solveWithAssumed() {
