@@ -3,7 +3,7 @@ import java.util.List;
 
 /**
  * "A call that throws changes nothing.": runs are played once as they are and once with a refused
- * call at one place, for every place and every call that is refused there; all else must be alike.
+ * call at one place, for every place and each likely call that is refused there; all else must be alike.
  */
 public final class RefusedCallsTest {
     private static final Due DUE = new Due();
