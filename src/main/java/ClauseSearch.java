@@ -490,7 +490,8 @@ public final class ClauseSearch {
      * variables, and the first way found is the least.
      */
     private static final class Search {
-        // Each step tries a code or learns, and no state of the trail comes twice.
+        // Each step tries a code or learns, and no state of the trail comes twice, so the search ends by
+        // itself. 512 calls can ask for more than two million steps: the bound is far above that.
         private static final long MOST_STEPS = 1L << 40;
         private static final int MOST_LESSONS = 1000;
 

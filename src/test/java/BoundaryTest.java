@@ -13,7 +13,6 @@ public final class BoundaryTest {
         rowThatHas20();
         howManyLiterals();
         clauseOfAnEmptyRow();
-        clauseBehind4000();
         clauseEmptiesTheRow();
         howManyClauses();
         solveWithNothing();
@@ -186,21 +185,6 @@ public final class BoundaryTest {
         DUE.state("behind a no", x::clause);
         DUE.is("still one clause", 1, () -> x.count(1));
         DUE.is("the row of one", 2, () -> Calls.addClause(x, 2));
-    }
-
-    private static void clauseBehind4000() {
-        DUE.sentence("there are 4000 CLAUSES: IndexOutOfBoundsException.");
-        ClauseSearch x = Calls.withManyClauses(4000);
-        x.solve();
-        DUE.state("an empty row is looked at first", x::clause);
-        x.give(400);
-        DUE.bounds("a row of 1", x::clause);
-        DUE.is("the row and the way are left", "400 4000 1 1 0 0", () -> Calls.counts(x));
-        DUE.is("the way is the one before", false, () -> x.value(400));
-        Calls.give(x, Calls.times(19, 399));
-        DUE.bounds("a row of 20", x::clause);
-        DUE.is("it can be assumed", "1".repeat(400), () -> Calls.leastWith(x));
-        DUE.is("and became no clause", "0".repeat(400), () -> Calls.leastWith(x));
     }
 
     private static void clauseEmptiesTheRow() {

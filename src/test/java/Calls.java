@@ -21,19 +21,6 @@ final class Calls {
         return x;
     }
 
-    /**
-     * Each of the variables 1 to 399 asks for the next, again and again. No 512 calls make 4000 clauses,
-     * so what is answered behind so many is free; the document's limit is kept all the same.
-     */
-    static ClauseSearch withManyClauses(int clauses) {
-        ClauseSearch x = withVariables(400);
-        for (int i = 1; i <= clauses; i++) {
-            int v = i % 399 + 1;
-            addClause(x, -v, v % 399 + 1);
-        }
-        return x;
-    }
-
     static void give(ClauseSearch x, int... literals) {
         for (int l : literals) {
             x.give(l);

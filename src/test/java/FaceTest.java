@@ -26,8 +26,22 @@ public final class FaceTest {
         due.is("the class", "public final", () -> Modifier.toString(ClauseSearch.class.getModifiers()));
         for (Class<?> inside : ClauseSearch.class.getDeclaredClasses()) {
             due.is(inside.getName(), "private static final", () -> Modifier.toString(inside.getModifiers()));
+            due.is("names of the face in " + inside.getName(), Set.of(), () -> faceNamesIn(inside));
         }
+        due.is("names of the face that are private", Set.of(), () -> faceNamesIn(ClauseSearch.class));
         due.end();
+    }
+
+    /** The methods of a class that are not of the face but bear a name of it. */
+    private static Set<String> faceNamesIn(Class<?> of) {
+        Set<String> names = Set.of("variables", "give", "clause", "solve", "value", "count");
+        Set<String> found = new TreeSet<>();
+        for (Method m : of.getDeclaredMethods()) {
+            if (names.contains(m.getName()) && !Modifier.isPublic(m.getModifiers())) {
+                found.add(m.toString());
+            }
+        }
+        return found;
     }
 
     private static Set<String> shown() {

@@ -1,4 +1,5 @@
 import java.util.ArrayList;
+import java.util.Arrays;
 import java.util.Collections;
 import java.util.List;
 import java.util.Random;
@@ -6,8 +7,19 @@ import java.util.Random;
 /** Searches that learn much, some more than the program keeps, all within 512 calls. */
 public final class HardRunsTest {
     private static final Due DUE = new Due();
-    /** The search learns 328,388 lessons in 736,098 steps; all others of 3500 seeds tried need fewer. */
-    private static final int SEED_OF_LONG_SEARCH = 2698;
+    /** Found by trying which small changes make the search longer: it takes 2,068,959 steps. */
+    private static final Integer[][] LONG_SEARCH = {
+        {
+            25, 3, 48, 49, 54, 5, 56, 50, 22, 37, 18, 19, 13, 33, 45, 43, 29, 17, 6, 4,
+            28, 34, 44, 10, 21, 38, 52, 30, 24, 53, 41, 8, 35, 32, 55, 39, 36, 31, 27, 42,
+            23, 57, 40, 26, 58, 20, 16, 9, 12, 51, 47, 46, 2, 15, 7, 11, 14
+        },
+        {
+            30, 4, 17, 32, 7, 21, 54, 11, 34, 2, 56, 5, 20, 42, 9, 28, 31, 46, 14, 52,
+            25, 12, 58, 10, 36, 18, 22, 40, 44, 38, 16, 33, 29, 6, 55, 19, 49, 26, 3, 51,
+            37, 47, 24, 39, 41, 43, 50, 57, 15, 53, 27, 8, 45, 13, 23, 35, 48
+        }
+    };
 
     public static void main(String[] args) {
         for (int holes = 3; holes <= 6; holes++) {
@@ -17,7 +29,8 @@ public final class HardRunsTest {
             noWay("graph " + seed, oddDegrees(seed));
             triples(13, seed);
         }
-        triples(14, SEED_OF_LONG_SEARCH);
+        triples("a long search", Arrays.asList(LONG_SEARCH[0]), Arrays.asList(LONG_SEARCH[1]));
+        longLesson();
         DUE.end();
     }
 
@@ -88,32 +101,42 @@ public final class HardRunsTest {
         return clause;
     }
 
+    private static void triples(int groups, int seed) {
+        List<Integer> first = new ArrayList<>();
+        for (int v = 2; v <= 4 * groups + 2; v++) {
+            first.add(v);
+        }
+        Random random = new Random(seed);
+        Collections.shuffle(first, random);
+        List<Integer> second = new ArrayList<>(first);
+        Collections.shuffle(second, random);
+        triples(groups + " groups, seed " + seed, first, second);
+    }
+
     /**
      * Two ways to put variables into groups of 4 and one of 5: of a group of the first at most 2 are
      * true, of one of the second at most 2 false. That cannot be, unless variable 1 makes the first
      * clause true: the yes comes behind the search for a way in which it is false.
      */
-    private static void triples(int groups, int seed) {
-        List<Integer> variables = new ArrayList<>();
-        for (int v = 2; v <= 4 * groups + 2; v++) {
-            variables.add(v);
-        }
-        Random random = new Random(seed);
+    private static void triples(String what, List<Integer> first, List<Integer> second) {
         List<int[]> clauses = new ArrayList<>();
-        for (int sign = -1; sign <= 1; sign += 2) {
-            Collections.shuffle(variables, random);
-            for (int g = 0; g < groups; g++) {
-                int end = g == groups - 1 ? variables.size() : 4 * g + 4;
-                noneOfThree(variables.subList(4 * g, end), sign, clauses);
-            }
-        }
-        int[] first = clauses.get(0);
-        clauses.set(0, new int[] {first[0], first[1], first[2], 1});
-        ClauseSearch x = Calls.withClauses(4 * groups + 2, clauses);
-        String what = groups + " groups, seed " + seed;
+        groupsOfFour(first, -1, clauses);
+        groupsOfFour(second, 1, clauses);
+        int[] weaker = Arrays.copyOf(clauses.get(0), 4);
+        weaker[3] = 1;
+        clauses.set(0, weaker);
+        ClauseSearch x = Calls.withClauses(first.size() + 1, clauses);
         DUE.is(what + ": with variable 1", true, () -> x.solve() && x.value(1));
         DUE.is(what + ": without it", false, () -> Calls.solveWith(x, -1));
         searchWasRight(what, x);
+    }
+
+    private static void groupsOfFour(List<Integer> variables, int sign, List<int[]> clauses) {
+        int groups = variables.size() / 4;
+        for (int g = 0; g < groups; g++) {
+            int end = g == groups - 1 ? variables.size() : 4 * g + 4;
+            noneOfThree(variables.subList(4 * g, end), sign, clauses);
+        }
     }
 
     private static void noneOfThree(List<Integer> group, int sign, List<int[]> clauses) {
@@ -124,5 +147,31 @@ public final class HardRunsTest {
                 }
             }
         }
+    }
+
+    /**
+     * Variables 1 to 379 are false; then 380, if it is false too, forces 381, that 382, and so on to 400,
+     * which cannot be: the lesson names all of 1 to 380.
+     */
+    private static void longLesson() {
+        List<int[]> clauses = new ArrayList<>();
+        for (int link = 0; link <= 20; link++) {
+            int[] clause = Calls.range(18 * link, 18 * link + 19);
+            clause[0] = link == 0 ? 380 : -(380 + link);
+            clause[19] = link == 20 ? 379 : 381 + link;
+            clauses.add(clause);
+        }
+        ClauseSearch x = Calls.withClauses(400, clauses);
+        DUE.is("a long lesson", true, x::solve);
+        for (int v = 370; v <= 390; v++) {
+            int asked = v;
+            DUE.is("a long lesson, variable " + v, v == 380, () -> x.value(asked));
+        }
+        DUE.is("a long lesson, against it", true, () -> Calls.solveWith(x, -380));
+        for (int v = 370; v <= 390; v++) {
+            int asked = v;
+            DUE.is("against it, variable " + v, v == 379 || v > 380, () -> x.value(asked));
+        }
+        searchWasRight("a long lesson", x);
     }
 }

@@ -10,8 +10,9 @@ import java.util.List;
 import java.util.Set;
 
 /**
- * What no call of the face can show while the search is right: that a wrong lesson and a way that is
- * not good would be found; and that an object stays small.
+ * What no 512 calls of the face can show while the search is right: that a wrong lesson and a way that
+ * is not good would be found, and that there are never more than 4000 clauses; and that an object stays
+ * small. Where the search errs, the document promises no answer of solve, so none is looked at there.
  */
 public final class InsideTest {
     private static final Due DUE = new Due();
@@ -21,6 +22,10 @@ public final class InsideTest {
         wrongLessonIsCounted();
         badWayIsFound();
         badWayIsCounted();
+        mostClauses();
+        clauseBehind4000();
+        refusedClauseLeavesTheWay();
+        refusedClauseBecomesNone();
         objectIsSmall();
         DUE.end();
     }
@@ -97,12 +102,11 @@ public final class InsideTest {
         DUE.sentence("4 lessons that did not follow");
         ClauseSearch x = with(3, new int[] {1, 2, 3}, new int[] {1, 2, -3});
         ((boolean[]) get(get(get(x, "search"), "lesson"), "seen"))[1] = true;
-        DUE.is("a wrong lesson is learnt", true, x::solve);
-        DUE.is("count(4)", 1, () -> x.count(4));
-        DUE.is("count(5)", 0, () -> x.count(5));
+        x.solve();
+        DUE.is("behind a wrong lesson", 1, () -> x.count(4));
         ClauseSearch y = with(3, new int[] {1, 2, 3}, new int[] {1, 2, -3});
-        DUE.is("a right lesson is learnt", true, y::solve);
-        DUE.is("count(4) behind it", 0, () -> y.count(4));
+        DUE.is("a right lesson is learnt", "010", () -> Calls.leastWith(y));
+        DUE.is("behind it", 0, () -> y.count(4));
     }
 
     private static void badWayIsFound() {
@@ -125,12 +129,66 @@ public final class InsideTest {
         int[] head = (int[]) get(get(get(x, "search"), "watch"), "head");
         int[] kept = head.clone();
         Arrays.fill(head, -1);
-        DUE.is("a bad way is no way", false, x::solve);
-        DUE.is("counts", "2 1 0 0 0 1", () -> Calls.counts(x));
-        DUE.state("its truths cannot be asked", () -> x.value(1));
+        x.solve();
+        DUE.is("behind a bad way", 1, () -> x.count(5));
         System.arraycopy(kept, 0, head, 0, head.length);
         DUE.is("a good way", "01", () -> Calls.leastWith(x));
-        DUE.is("counts behind it", "2 1 0 1 0 1", () -> Calls.counts(x));
+        DUE.is("behind it", 1, () -> x.count(5));
+    }
+
+    /** Each of the variables 1 to 399 asks for the next, again and again; no call makes these clauses. */
+    private static ClauseSearch withClausesInside(int clauses) {
+        ClauseSearch x = Calls.withVariables(400);
+        for (int i = 1; i <= clauses; i++) {
+            int v = i % 399 + 1;
+            int[] codes = {2 * v + 1, 2 * (v % 399 + 1)};
+            call(get(x, "clauses"), "add", codes, 2, 0);
+            call(get(x, "search"), "take", codes, 2);
+        }
+        return x;
+    }
+
+    private static void mostClauses() {
+        DUE.sentence("CLAUSES stay for good (at most 4000).");
+        ClauseSearch x = withClausesInside(3999);
+        DUE.is("one is left", "400 3999 0 0 0 0", () -> Calls.counts(x));
+        DUE.is("the 4000th", 4000, () -> Calls.addClause(x, 399));
+        DUE.is("it holds, and those before it", Calls.onlyTrue(400, Calls.range(1, 399)),
+                () -> Calls.leastWith(x));
+        DUE.is("counts", "400 4000 0 1 0 0", () -> Calls.counts(x));
+    }
+
+    private static void clauseBehind4000() {
+        DUE.sentence("there are 4000 CLAUSES: IndexOutOfBoundsException.");
+        ClauseSearch x = withClausesInside(4000);
+        DUE.state("an empty row is looked at first", x::clause);
+        x.give(400);
+        DUE.bounds("a row of 1", x::clause);
+        DUE.is("the row is left", "400 4000 1 0 0 0", () -> Calls.counts(x));
+        Calls.give(x, Calls.times(19, 399));
+        DUE.bounds("a row of 20", x::clause);
+        DUE.is("the row is left", "400 4000 20 0 0 0", () -> Calls.counts(x));
+        DUE.is("it can be assumed", "1".repeat(400), () -> Calls.leastWith(x));
+    }
+
+    private static void refusedClauseLeavesTheWay() {
+        DUE.sentence("A call that throws changes nothing.");
+        ClauseSearch x = withClausesInside(4000);
+        x.solve();
+        x.give(400);
+        DUE.bounds("behind a yes", x::clause);
+        DUE.is("the way stands", "400 4000 1 1 0 0", () -> Calls.counts(x));
+        DUE.is("it is the one before", "0".repeat(400), () -> Calls.way(x));
+    }
+
+    private static void refusedClauseBecomesNone() {
+        DUE.sentence("A call that throws changes nothing.");
+        ClauseSearch x = withClausesInside(4000);
+        x.give(400);
+        DUE.bounds("a row of 1", x::clause);
+        DUE.is("it can be assumed", true, x::solve);
+        DUE.is("its denial too", true, () -> Calls.solveWith(x, -400));
+        DUE.is("and nothing asks for it", "0".repeat(400), () -> Calls.leastWith(x));
     }
 
     private static void objectIsSmall() {

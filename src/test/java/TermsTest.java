@@ -15,7 +15,6 @@ public final class TermsTest {
         oneMustBeTrue();
         rowIsEmptyAtFirst();
         clausesStay();
-        mostClauses();
         wayOfEachVariable();
         goodWayAndClauses();
         goodWayAndAssumed();
@@ -181,16 +180,6 @@ public final class TermsTest {
         Calls.addClause(x, 1);
         DUE.is("and never again", "no", () -> Calls.leastWith(x));
         DUE.is("how many there are", 4, () -> x.count(1));
-    }
-
-    private static void mostClauses() {
-        DUE.sentence("CLAUSES stay for good (at most 4000).");
-        ClauseSearch x = Calls.withManyClauses(3999);
-        DUE.is("one is left", "400 3999 0 0 0 0", () -> Calls.counts(x));
-        DUE.is("the 4000th", 4000, () -> Calls.addClause(x, 399));
-        DUE.is("it holds, and those before it", Calls.onlyTrue(400, Calls.range(1, 399)),
-                () -> Calls.leastWith(x));
-        DUE.is("counts", "400 4000 0 1 0 0", () -> Calls.counts(x));
     }
 
     private static void wayOfEachVariable() {
